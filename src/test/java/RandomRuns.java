@@ -1,0 +1,1 @@
+final class RandomRuns { private RandomRuns() {} static void ruleX() {} }
