@@ -888,6 +888,7 @@ public final class SeenByOne {
         /** By the HOUSE that is seen: those that LOOK INTO it (bits), as lookAround() found them. */
         final int[] lookers = new int[MOST_THINGS];
 
+        /** All but what lookAround() finds. */
         void copyFrom(Ground other) {
             count = other.count;
             summer = other.summer;
@@ -901,7 +902,6 @@ public final class SeenByOne {
             System.arraycopy(other.heights, 0, heights, 0, MOST_THINGS);
             System.arraycopy(other.as, 0, as, 0, MOST_THINGS);
             System.arraycopy(other.shutInto, 0, shutInto, 0, MOST_THINGS);
-            System.arraycopy(other.lookers, 0, lookers, 0, MOST_THINGS);
         }
 
         // THINGS

@@ -8,7 +8,7 @@ import java.util.TreeSet;
 public final class AllTests {
     private static final Class<?>[] CLASSES = {
         ShelfTests.class, GroundTests.class, SightTests.class, ShutterTests.class, ChangeTests.class,
-        WhoTests.class, TruthTests.class, ActTests.class, ImageTests.class, FaceTests.class, RandomRuns.class,
+        WhoTests.class, TruthTests.class, ActTests.class, ImageTests.class, FaceTests.class, RandomRuns.class, WildRuns.class,
     };
     private static final int PROMISES = 43;
 

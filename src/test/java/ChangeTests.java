@@ -38,6 +38,12 @@ final class ChangeTests {
         newly(three, 4, 51);
     }
 
+    static void promise26NewlyAtTheEdges() {
+        newly("thing 1 9 8 3 0;thing 0 8 7 0 0;thing 0 9 7 0 0;thing 0 8 8 0 0;thing 0 8 9 0 0;far 1", 3, 99);
+        newly("thing 1 9 5 3 0;thing 0 8 4 0 0;thing 0 9 4 0 0;thing 0 8 5 0 0;thing 0 8 6 0 0;thing 0 9 6 0 0;far 1", 3, 0);
+        newly("thing 1 5 9 3 0;thing 0 4 8 0 0;thing 0 5 8 0 0;thing 0 6 8 0 0;thing 0 4 9 0 0;thing 0 6 9 0 0;far 1", 3, 0);
+    }
+
     static void promise26NewlyRefusals() {
         SeenByOne x = Due.told("thing 0 0 0 0 0;thing 0 1 0 0 0;thing 0 2 0 0 0;thing 0 3 0 0 0;thing 0 4 0 0 0;"
             + "thing 0 5 0 0 0;thing 0 6 0 0 0");
@@ -91,6 +97,12 @@ final class ChangeTests {
         Due.is("a sight that is SHUT can't be lost", x.blinded(2), 1);
         x.draw(1, true);
         Due.is("nor one behind a curtain", x.blinded(2), 0);
+    }
+
+    /** The last but one stands between the last and 0. */
+    static void promise28BlindedAmongEight() {
+        storey("thing 1 0 0 3 0;thing 0 5 5 0 0;thing 0 6 5 0 0;thing 0 7 5 0 0;thing 0 5 6 0 0;thing 0 6 6 0 0;"
+            + "thing 1 1 0 3 0;thing 1 2 0 3 0", 6, 2, 2);
     }
 
     static void promise28BlindedRefusals() {

@@ -1,13 +1,18 @@
+import java.io.IOException;
 import java.lang.reflect.Constructor;
 import java.lang.reflect.Field;
 import java.lang.reflect.Member;
 import java.lang.reflect.Method;
 import java.lang.reflect.Modifier;
+import java.nio.file.Files;
+import java.nio.file.Path;
 import java.util.Arrays;
 import java.util.List;
 import java.util.TreeSet;
+import java.util.regex.Matcher;
+import java.util.regex.Pattern;
 
-/** The document's face, and rule 1 of LANGUAGE.md. */
+/** The document's face: rule 1 of LANGUAGE.md; and words that its other rules leave out. */
 final class FaceTests {
     private static final List<String> FACE = List.of(
         "int row(int int int)", "int set(int int long)", "int copy(int int int int int)", "long element(int int)",
@@ -58,6 +63,17 @@ final class FaceTests {
                 same(method.getName() + " is private", isPrivate(method), true);
                 same(method.getName() + " bears no public name", names.contains(method.getName()), false);
             }
+        }
+    }
+
+    /** A look for words alone; it doesn't stand for reading LANGUAGE.md. */
+    static void rule06WordsThatMayNotBe() throws IOException {
+        String source = Files.readString(Path.of("src/main/java/SeenByOne.java"));
+        Matcher word = Pattern.compile("\\b(throw|throws|try|catch|synchronized|assert|import|package|equals|hashCode|"
+            + "toString|float|double|yield)\\b|->|::|[^\\n -~]").matcher(source);
+        same("words that may not be", word.find() ? word.group() : "none", "none");
+        for (String line : source.split("\n")) {
+            same("a line of " + line.length(), line.length() <= 120, true);
         }
     }
 

@@ -145,6 +145,10 @@ final class GroundTests {
         Due.is("SHUTTERS", x.status(4), 1);
         Due.is("it is 1's sight into 0", x.shut(1, 0, true), 0);
         Due.is("curtains", x.status(5), 1);
+        Due.put(x, 0, 0, "shut 1 0;shut 0 1");
+        Due.is("ITEMS, one of a sight SHUT already", x.ground(0), 2);
+        Due.is("SHUTTERS", x.status(4), 2);
+        x.shut(0, 1, false);
         Due.put(x, 0, 0, "summer 1");
         Due.is("a single ITEM", x.ground(0), 1);
         Due.is("SUMMER", x.status(2), 1);
@@ -326,6 +330,14 @@ final class GroundTests {
         faulty(eight, "thin", 4);
         faulty(eight, "far 3;t", 7);
         good(eight, "far 3;draw 7;summer 1", 3);
+    }
+
+    static void promise16FaultInTheLongestRow() {
+        String most = "far 1;".repeat(25);
+        faulty("", most + "summer 01;", 160);
+        faulty("", most + "far 1;far ", 160);
+        faulty("", most + "far 1;summ", 160);
+        good("", "far 1;".repeat(20) + "far 01;".repeat(5) + "far 1", 26);
     }
 
     static void promise16FaultOfTheLatest() {

@@ -70,6 +70,51 @@ final class ImageTests {
         Due.refused(x, 0, 0, 0, 0, 0, 1, 0);
     }
 
+    static void promise42RestoreOfEachShelf() {
+        SeenByOne x = new SeenByOne();
+        x.image();
+        for (int n = 0; n < 8; n++) {
+            x.thing(1, n, 0, n, n);
+            x.show(n, n);
+        }
+        Due.is("restore()", x.restore(), 0);
+        for (int s = 0; s < 8; s++) {
+            Due.is("holds(" + s + ")", x.holds(s), -1);
+        }
+        for (int n = 0; n < 8; n++) {
+            x.thing(n % 7, 9 - n, n, 20 - n, n);
+        }
+        x.shut(5, 3, true);
+        Due.is("HOUSES", x.status(1), 2 + 8 + 16 + 32);
+        Due.is("image()", x.image(), 8);
+        x.height(7, 0);
+        Due.is("restore()", x.restore(), 8);
+        for (int n = 0; n < 8; n++) {
+            int[] want = {n % 7, 9 - n, n, 20 - n, n};
+            for (int what = 0; what < 5; what++) {
+                Due.is("thingOf(" + n + ", " + what + ")", x.thingOf(n, what), want[what]);
+            }
+        }
+    }
+
+    /** The last THING comes back out of THE IMAGE whole, even where nothing was in its stead. */
+    static void promise42RestoreOfTheLastThing() {
+        SeenByOne x = new SeenByOne();
+        x.image();
+        for (int n = 0; n < 7; n++) {
+            x.thing(0, n, 0, 0, 0);
+        }
+        x.thing(3, 9, 8, 7, 6);
+        x.height(6, 5);
+        Due.is("image()", x.image(), 8);
+        x.height(7, 1);
+        x.restore();
+        int[] want = {3, 9, 8, 7, 6};
+        for (int what = 0; what < 5; what++) {
+            Due.is("thingOf(7, " + what + ")", x.thingOf(7, what), want[what]);
+        }
+    }
+
     static void promise42RestoreRefusals() {
         SeenByOne x = Due.told("thing 1 0 0 3 2");
         Due.is("restore()", x.restore(), -6);

@@ -26,7 +26,9 @@ final class ShelfTests {
             Due.is("set the last", x.set(sort, 159, 7), 1);
             Due.is("set beyond", x.set(sort, 160, 7), -5);
         }
+        x.set(3, 0, 7);
         Due.is("row anew", x.row(3, 2, 160), 1);
+        Due.is("its elements are 0 again", x.element(3, 0), 0);
         Due.is("its elements are 0 again", x.element(3, 159), 0);
         Due.is("row of none", x.row(7, 0, 0), 1);
         Due.is("set in it", x.set(7, 0, 1), -5);
@@ -69,6 +71,17 @@ final class ShelfTests {
                 Due.is("element of SORT " + sort, x.element(sort, i), want[sort][i]);
             }
         }
+    }
+
+    static void promise03SetNotInTheLastThing() {
+        SeenByOne x = new SeenByOne();
+        for (int n = 0; n < 8; n++) {
+            x.thing(0, n, 0, 0, 0);
+        }
+        Due.is("show(0, 7)", x.show(0, 7), 1);
+        Due.is("set in THING 7", x.set(0, 0, 1), -2);
+        Due.is("ground of THING 7", x.ground(0), -2);
+        Due.is("says THING 7", x.says(0, 0), 0);
     }
 
     static void promise03SetRefusals() {

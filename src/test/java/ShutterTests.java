@@ -4,6 +4,10 @@ final class ShutterTests {
     private static final String THREE = "thing 1 0 0 3 2;thing 1 2 1 3 0;thing 1 3 5 3 1";
     private static final String SQUARE = "thing 1 0 0 3 0;thing 1 1 0 3 0;thing 1 0 1 3 0;thing 1 1 1 3 0";
 
+    /** All see all, being of one HEIGHT. */
+    private static final String EIGHT = "thing 1 0 0 3 1;thing 1 1 0 3 1;thing 1 2 0 3 1;thing 1 3 0 3 1;thing 1 0 1 3 1;"
+        + "thing 1 1 1 3 1;thing 1 2 1 3 1;thing 1 3 1 3 1";
+
     private ShutterTests() {
     }
 
@@ -100,12 +104,24 @@ final class ShutterTests {
         curtains(Due.told("thing 4 0 0 3 0;thing 4 1 0 3 0;draw 0;draw 1"), 3, 2, 3, 4);
     }
 
+    /** Two are RIGHT with 2 DRAWN, or with 0 and 1. */
+    static void promise25CurtainsOfTheFewest() {
+        SeenByOne x = Due.told("thing 4 0 0 3 0;thing 1 1 0 3 0;thing 4 0 1 3 0;shut 1 0");
+        curtains(x, 4, 2, 4, 4);
+    }
+
+    static void promise25CurtainsOfEight() {
+        SeenByOne x = Due.told(EIGHT);
+        curtains(x, 127, 7, 127, 14);
+    }
+
     /** The TREE stands between 0 and 1 in summer; in winter they see each other. */
     static void promise25CurtainsInBoth() {
         SeenByOne x = Due.told("thing 1 0 0 3 0;thing 4 2 0 3 0;thing 2 1 0 3 9");
         curtains(x, 0, 1, 1, 1 + 2);
-        x.ask(0, 0);
+        Due.is("it is SUMMER still", x.ask(0, 0), 1);
         curtains(x, 1, 2, 1, 1 + 2);
+        Due.is("it is winter still", x.status(2), 0);
         SeenByOne y = Due.told("thing 4 0 0 3 0;thing 4 2 0 3 0;thing 2 1 0 3 9");
         curtains(y, 0, 2, 3, 4);
         y.ask(0, 0);
@@ -132,6 +148,20 @@ final class ShutterTests {
         Due.is("shuts() again", x.shuts(), 0);
         Due.is("SHUTTERS", x.status(4), 5);
         Due.is("shuts() of none", new SeenByOne().shuts(), 0);
+    }
+
+    static void promise35ShutsOfEight() {
+        SeenByOne x = Due.told(EIGHT);
+        int cheapest = x.cheapest(0);
+        Due.is("cheapest(2)", x.cheapest(2), 8 * 6);
+        Due.is("shuts()", x.shuts(), cheapest);
+        Due.is("SHUTTERS", x.status(4), 48);
+        Due.is("right()", x.right(), 255);
+        Due.is("seers(7)", x.seers(7), 1);
+        Due.is("cheapest(0) then", x.cheapest(0), 0);
+        Due.is("opens()", x.opens(), 48);
+        Due.is("SHUTTERS", x.status(4), 0);
+        Due.is("seers(7)", x.seers(7), 127);
     }
 
     static void promise35ShutsRefusals() {

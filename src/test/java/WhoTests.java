@@ -3,6 +3,10 @@ final class WhoTests {
     private static final String SQUARE = "thing 1 0 0 3 0;thing 1 1 0 3 0;thing 1 0 1 3 0;thing 1 1 1 3 0";
     private static final String BEHIND_A_TREE = "thing 1 0 0 3 0;thing 1 2 0 3 0;thing 2 1 0 3 1";
 
+    /** Six walls, and two HOUSES that see each other. */
+    private static final String FILLED = "thing 0 0 5 0 0;thing 0 1 5 0 0;thing 0 2 5 0 0;thing 0 3 5 0 0;thing 0 4 5 0 0;"
+        + "thing 0 5 5 0 0;thing 1 0 0 3 0;thing 1 1 0 3 0";
+
     private WhoTests() {
     }
 
@@ -18,6 +22,15 @@ final class WhoTests {
         Due.is("a TOWER in a pair", Due.told("thing 3 0 0 3 0;thing 1 1 0 3 0").pairs(), 1);
         Due.is("a BLIND one in none", Due.told("thing 5 0 0 3 0;thing 1 1 0 3 0").pairs(), 0);
         Due.is("pairs() of none", new SeenByOne().pairs(), 0);
+    }
+
+    static void promise30PairsWithTheLast() {
+        SeenByOne x = Due.told(FILLED);
+        Due.is("pairs()", x.pairs(), 1);
+        Due.is("most(), of two the first", x.most(), 6);
+        Due.is("night(128): 7 has drawn its", x.night(128), 128);
+        x.draw(6, true);
+        Due.is("most(): the last", x.most(), 7);
     }
 
     static void promise31Back() {
@@ -79,6 +92,7 @@ final class WhoTests {
             x.draw(house, true);
         }
         Due.is("most(): all see nothing", x.most(), 1);
+        Due.is("most(): 0", Due.told(SQUARE).most(), 0);
         SeenByOne y = Due.told("thing 1 0 0 3 0;thing 1 1 0 3 0;thing 3 0 1 3 0;thing 5 1 1 3 0;shut 0 1;shut 1 0");
         Due.is("most(): a TOWER", y.most(), 2);
     }
