@@ -72,9 +72,6 @@ final class FaceTests {
         Matcher word = Pattern.compile("\\b(throw|throws|try|catch|synchronized|assert|import|package|equals|hashCode|"
             + "toString|float|double|yield)\\b|->|::|[^\\n -~]").matcher(source);
         same("words that may not be", word.find() ? word.group() : "none", "none");
-        for (String line : source.split("\n")) {
-            same("a line of " + line.length(), line.length() <= 120, true);
-        }
     }
 
     static void rule01TheRest() throws ReflectiveOperationException {
