@@ -1013,19 +1013,21 @@ public final class SeenByOne {
             return hasEyes && distanceOf(i, j) <= far && firstBar(i, j) == NONE;
         }
 
-        /** The first on the way from i: only at whole parts of the line can a THING stand. */
+        /** The first by number, as everywhere; only at whole parts of the line can a THING stand. */
         int firstBar(int i, int j) {
+            int first = NONE;
             int wayX = xs[j] - xs[i];
             int wayY = ys[j] - ys[i];
             int parts = greatestDivisor(Math.abs(wayX), Math.abs(wayY));
             for (int k = 1; k < parts; k++) {
                 int between = thingAt(xs[i] + wayX / parts * k, ys[i] + wayY / parts * k);
                 int sight = eyesOf(i) * (parts - k) + heights[j] * k;
-                if (between != NONE && tallOf(between) * parts > sight) {
-                    return between;
+                boolean isBar = between != NONE && tallOf(between) * parts > sight;
+                if (isBar && (first == NONE || between < first)) {
+                    first = between;
                 }
             }
-            return NONE;
+            return first;
         }
 
         private static int greatestDivisor(int p, int q) {

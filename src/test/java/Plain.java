@@ -133,18 +133,17 @@ final class Plain {
 
         /** By crosswise products and DISTANCES instead of parts of the line. */
         Wall bar(House from, House into) {
-            Wall nearest = null;
             int whole = distance(from, into);
             for (Wall t : things) {
                 int cross = (into.x - from.x) * (t.y - from.y) - (into.y - from.y) * (t.x - from.x);
                 int near = distance(from, t);
                 boolean between = cross == 0 && near > 0 && near < whole && near + distance(t, into) == whole;
                 boolean over = t.tall(summer) * whole > from.eyes() * (whole - near) + into.height * near;
-                if (between && over && (nearest == null || near < distance(from, nearest))) {
-                    nearest = t;
+                if (between && over) {
+                    return t;
                 }
             }
-            return nearest;
+            return null;
         }
 
         boolean looks(House i, House j) {

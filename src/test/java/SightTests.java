@@ -92,17 +92,28 @@ final class SightTests {
         Due.refused(x, 2, 3, 0, 0, 2, 1, 0);
     }
 
-    static void promise18BarsFirstOnTheWay() {
+    static void promise18BarsFirstByNumber() {
         SeenByOne x = Due.told("thing 1 0 0 2 0;thing 1 9 0 2 0;thing 0 6 0 3 0;thing 0 3 0 4 0;thing 2 4 0 0 5");
-        Due.is("bars(0, 1)", x.bars(0, 1), 3);
+        Due.is("bars(0, 1)", x.bars(0, 1), 2);
         Due.is("bars(1, 0)", x.bars(1, 0), 2);
-        x.height(3, 2);
-        Due.is("bars(0, 1) over a lower one", x.bars(0, 1), 4);
-        x.ask(0, 0);
-        Due.is("bars(0, 1) in winter", x.bars(0, 1), 2);
         x.height(2, 2);
+        Due.is("bars(0, 1) over a lower one", x.bars(0, 1), 3);
+        Due.is("bars(1, 0) over a lower one", x.bars(1, 0), 3);
+        x.height(3, 2);
+        Due.is("bars(0, 1) over two lower ones", x.bars(0, 1), 4);
+        x.ask(0, 0);
         Due.is("bars(0, 1) over all", x.bars(0, 1), -1);
         Due.refused(x, 0, 0, 0, 0, 0, 0, 0);
+    }
+
+    static void promise18BarsFirstByNumberAslant() {
+        SeenByOne x = Due.told("thing 1 0 0 0 0;thing 0 1 0 0 0;thing 0 2 0 0 0;thing 1 4 4 0 0;thing 0 2 2 1 0;thing 0 1 1 1 0");
+        Due.is("bars(0, 3), a later one is nearer", x.bars(0, 3), 4);
+        Due.is("bars(3, 0), the first is nearer", x.bars(3, 0), 4);
+        Due.is("they don't see, either", x.sees(0, 3, 0) + x.sees(3, 0, 0), 0);
+        x.height(4, 0);
+        Due.is("bars(0, 3), just the later one", x.bars(0, 3), 5);
+        Due.is("bars(3, 0), just the later one", x.bars(3, 0), 5);
     }
 
     static void promise18BarsHoweverFar() {
