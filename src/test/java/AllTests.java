@@ -4,11 +4,13 @@ import java.util.Arrays;
 import java.util.Comparator;
 import java.util.TreeSet;
 
-/** Runs every static method of the test classes whose name tells of a promise or a rule. */
+/** Runs every static method of the test classes whose name tells of a promise, of the Terms or of a rule. */
 public final class AllTests {
     private static final Class<?>[] CLASSES = {
         ShelfTests.class, GroundTests.class, SightTests.class, ShutterTests.class, ChangeTests.class,
-        WhoTests.class, TruthTests.class, ActTests.class, ImageTests.class, FaceTests.class, RandomRuns.class, WildRuns.class,
+        WhoTests.class, TruthTests.class, ActTests.class, ImageTests.class, GroundTermsTests.class, TextTests.class,
+        SightTermsTests.class, ComesTermsTests.class, TruthTermsTests.class, RefusalTests.class,
+        FaceTests.class, RandomRuns.class, WildRuns.class,
     };
     private static final int PROMISES = 43;
 
@@ -24,7 +26,7 @@ public final class AllTests {
             Arrays.sort(methods, Comparator.comparing(Method::getName));
             for (Method method : methods) {
                 String name = method.getName();
-                if (name.startsWith("promise") || name.startsWith("rule")) {
+                if (name.startsWith("promise") || name.startsWith("terms") || name.startsWith("rule")) {
                     if (name.startsWith("promise")) {
                         promises.add(Integer.parseInt(name.substring(7, 9)));
                     }
