@@ -1,8 +1,5 @@
 /** Terms, 3. WHAT COMES OF IT, what it says of HOUSES: each bound, on both sides. Its words stand above each test. */
 final class ComesTermsTests {
-    /** All see all, being of one HEIGHT. */
-    private static final String EIGHT = "thing 1 0 0 3 1;thing 1 1 0 3 1;thing 1 2 0 3 1;thing 1 3 0 3 1;thing 1 0 1 3 1;"
-        + "thing 1 1 1 3 1;thing 1 2 1 3 1;thing 1 3 1 3 1";
     private static final String ONE = "thing 1 5 5 3 1";
     private static final String ONE_SHY = "thing 4 5 5 3 1";
     private static final String TWO = "thing 1 0 0 3 0;thing 1 1 0 3 0";
@@ -11,7 +8,7 @@ final class ComesTermsTests {
     }
 
     private static SeenByOne eightShy() {
-        return Due.told(EIGHT.replace("thing 1", "thing 4"));
+        return Due.told(Due.EIGHT.replace("thing 1", "thing 4"));
     }
 
     /** "COST of shutting a sight: DISTANCE, and a of the one that is seen": the least and the most. */
@@ -28,42 +25,36 @@ final class ComesTermsTests {
         Due.is("of a sight that isn't", x.cost(0, 2), 18);
     }
 
-    private static void cheapest(SeenByOne x, int cost, int hopeless, int shutters) {
-        Due.is("cheapest(0)", x.cheapest(0), cost);
-        Due.is("cheapest(1)", x.cheapest(1), hopeless);
-        Due.is("cheapest(2)", x.cheapest(2), shutters);
-    }
-
     /** "CHEAPEST": no HOUSE, one, two that are RIGHT, as many as there may be. */
     static void terms3CheapestOfNoneToEight() {
-        cheapest(new SeenByOne(), 0, 0, 0);
-        cheapest(Due.told("thing 0 0 0 1 1;thing 2 1 1 1 1"), 0, 0, 0);
-        cheapest(Due.told(ONE), 0, 1, 0);
-        cheapest(Due.told(ONE_SHY), 0, 0, 0);
-        cheapest(Due.told(TWO), 0, 0, 0);
-        cheapest(Due.told(EIGHT), 116, 0, 48);
-        cheapest(eightShy(), 2 * (13 + 9 + 9 + 13) + 56, 0, 56);
-        SeenByOne x = Due.told(EIGHT + ";far 1");
+        Due.cheapest(new SeenByOne(), 0, 0, 0);
+        Due.cheapest(Due.told("thing 0 0 0 1 1;thing 2 1 1 1 1"), 0, 0, 0);
+        Due.cheapest(Due.told(ONE), 0, 1, 0);
+        Due.cheapest(Due.told(ONE_SHY), 0, 0, 0);
+        Due.cheapest(Due.told(TWO), 0, 0, 0);
+        Due.cheapest(Due.told(Due.EIGHT), 116, 0, 48);
+        Due.cheapest(eightShy(), 2 * (13 + 9 + 9 + 13) + 56, 0, 56);
+        SeenByOne x = Due.told(Due.EIGHT + ";far 1");
         for (int house = 0; house < 8; house++) {
             x.draw(house, true);
         }
-        cheapest(x, 0, 255, 0);
+        Due.cheapest(x, 0, 255, 0);
     }
 
     /** "those that can't be: which (bits)", while the COST is of those that can. */
     static void terms3CheapestOfThoseThatCanBe() {
         SeenByOne x = Due.told("thing 1 0 0 3 2;thing 1 1 0 3 3;thing 1 0 1 3 4;thing 1 9 9 3 5;thing 3 9 8 3 6;far 2");
-        cheapest(x, 1 + 2 + 1 + 3 + 1 + 4, 8, 3);
+        Due.cheapest(x, 1 + 2 + 1 + 3 + 1 + 4, 8, 3);
         Due.is("shuts()", x.shuts(), -6);
         x.draw(0, true);
         x.draw(1, true);
-        cheapest(x, 0, 4 + 8, 0);
+        Due.cheapest(x, 0, 4 + 8, 0);
     }
 
     /** "(each keeps its dearest SEER, of several the first; a SHY one none)" */
     static void terms3KeepsTheDearestOrTheFirst() {
         int[] kept = {3, 3, 0, 0, 3, 3, 0, 0};
-        SeenByOne x = Due.told(EIGHT);
+        SeenByOne x = Due.told(Due.EIGHT);
         for (int house = 0; house < 8; house++) {
             Due.is("keeps(" + house + ")", x.keeps(house), kept[house]);
         }
@@ -90,7 +81,7 @@ final class ComesTermsTests {
         SeenByOne two = Due.told(TWO);
         Due.is("none", two.shuts(), 0);
         Due.is("SHUTTERS", two.status(4), 0);
-        SeenByOne eight = Due.told(EIGHT);
+        SeenByOne eight = Due.told(Due.EIGHT);
         Due.is("48", eight.shuts(), 116);
         Due.is("SHUTTERS", eight.status(4), 48);
         Due.is("right()", eight.right(), 255);
@@ -103,35 +94,28 @@ final class ComesTermsTests {
         Due.is("a single SHY one is", Due.told(ONE_SHY).shuts(), 0);
     }
 
-    private static void curtains(SeenByOne x, int set, int right, int both, int rightInBoth) {
-        Due.is("curtains(0)", x.curtains(0), set);
-        Due.is("curtains(1)", x.curtains(1), right);
-        Due.is("curtains(2)", x.curtains(2), both);
-        Due.is("curtains(3)", x.curtains(3), rightInBoth);
-    }
-
     /** "CURTAINS: of all sets of HOUSES": none of no HOUSES, none, all of 8. */
     static void terms3CurtainsOfNoneToEight() {
-        curtains(new SeenByOne(), 0, 0, 0, 0);
-        curtains(Due.told("thing 2 0 0 3 0;thing 0 1 0 3 0"), 0, 0, 0, 0);
-        curtains(Due.told(ONE), 0, 0, 0, 0);
-        curtains(Due.told(ONE_SHY), 0, 1, 0, 2);
-        curtains(eightShy(), 255, 8, 255, 16);
+        Due.curtains(new SeenByOne(), 0, 0, 0, 0);
+        Due.curtains(Due.told("thing 2 0 0 3 0;thing 0 1 0 3 0"), 0, 0, 0, 0);
+        Due.curtains(Due.told(ONE), 0, 0, 0, 0);
+        Due.curtains(Due.told(ONE_SHY), 0, 1, 0, 2);
+        Due.curtains(eightShy(), 255, 8, 255, 16);
     }
 
     /** "that with most RIGHT, of several that of the fewest": none if one more makes none more; 4 before 3. */
     static void terms3CurtainsOfTheFewest() {
-        curtains(Due.told(TWO), 0, 2, 0, 4);
-        curtains(Due.told(TWO + ";draw 0;draw 1"), 0, 2, 0, 4);
-        curtains(Due.told("thing 4 0 0 3 0;thing 1 1 0 3 0;thing 5 0 1 3 0;shut 0 1;shut 0 2"), 0, 1, 0, 2);
-        curtains(Due.told("thing 4 0 0 3 0;thing 1 1 0 3 0;thing 4 0 1 3 0;shut 1 0"), 4, 2, 4, 4);
+        Due.curtains(Due.told(TWO), 0, 2, 0, 4);
+        Due.curtains(Due.told(TWO + ";draw 0;draw 1"), 0, 2, 0, 4);
+        Due.curtains(Due.told("thing 4 0 0 3 0;thing 1 1 0 3 0;thing 5 0 1 3 0;shut 0 1;shut 0 2"), 0, 1, 0, 2);
+        Due.curtains(Due.told("thing 4 0 0 3 0;thing 1 1 0 3 0;thing 4 0 1 3 0;shut 1 0"), 4, 2, 4, 4);
     }
 
     /** "of several the least as bits": 1 of 1 and 2, 2 of 2 and 4, 127 of eight. */
     static void terms3CurtainsOfTheLeastBits() {
-        curtains(Due.told("thing 4 0 0 3 0;thing 4 1 0 3 0;thing 5 0 1 3 0"), 1, 2, 1, 4);
-        curtains(Due.told("thing 5 0 1 3 0;thing 1 0 0 3 0;thing 1 1 0 3 0;shut 1 2;shut 2 1"), 2, 1, 2, 2);
-        curtains(Due.told(EIGHT), 127, 7, 127, 14);
+        Due.curtains(Due.told("thing 4 0 0 3 0;thing 4 1 0 3 0;thing 5 0 1 3 0"), 1, 2, 1, 4);
+        Due.curtains(Due.told("thing 5 0 1 3 0;thing 1 0 0 3 0;thing 1 1 0 3 0;shut 1 2;shut 2 1"), 2, 1, 2, 2);
+        Due.curtains(Due.told(Due.EIGHT), 127, 7, 127, 14);
     }
 
     private static void newly(String text, int h, int place) {
@@ -191,14 +175,14 @@ final class ComesTermsTests {
         Due.is("of one HOUSE", Due.told(ONE).pairs(), 0);
         Due.is("of two", Due.told(TWO).pairs(), 1);
         Due.is("one way alone", Due.told(TWO + ";shut 1 0").pairs(), 0);
-        Due.is("of eight", Due.told(EIGHT).pairs(), 28);
-        Due.is("of eight, one DRAWN", Due.told(EIGHT + ";draw 7").pairs(), 21);
+        Due.is("of eight", Due.told(Due.EIGHT).pairs(), 28);
+        Due.is("of eight, one DRAWN", Due.told(Due.EIGHT + ";draw 7").pairs(), 21);
     }
 
     /** "BACK .. behind how many steps it is there again": each number of steps from 2 to 8, and off the ring. */
     static void terms3BackBehindTwoToEight() {
         for (int ring = 2; ring <= 8; ring++) {
-            SeenByOne x = Due.told(EIGHT);
+            SeenByOne x = Due.told(Due.EIGHT);
             for (int i = 0; i < 8; i++) {
                 for (int j = 0; j < 8; j++) {
                     boolean kept = i < ring && (j < ring ? j == (i + 1) % ring : i == 0);
@@ -230,7 +214,7 @@ final class ComesTermsTests {
         Due.is("no THINGS", new SeenByOne().most(), -5);
         Due.is("one HOUSE that sees none", Due.told(ONE).most(), 0);
         Due.is("a BLIND one alone", Due.told("thing 0 0 0 1 1;thing 5 1 1 1 1").most(), 1);
-        SeenByOne x = Due.told(EIGHT);
+        SeenByOne x = Due.told(Due.EIGHT);
         for (int first = 0; first < 8; first++) {
             Due.is("of several the first", x.most(), first);
             x.draw(first, true);
@@ -243,12 +227,6 @@ final class ComesTermsTests {
         }
     }
 
-    private static void list(SeenByOne x, int wrong, int unlike, int fits) {
-        Due.is("list(0, 0)", x.list(0, 0), wrong);
-        Due.is("list(0, 1)", x.list(0, 1), unlike);
-        Due.is("list(0, 2)", x.list(0, 2), fits);
-    }
-
     /** "which THINGS SEE INTO it (bits, by the numbers of THINGS there alone)": the last bit that counts, the first that doesn't. */
     static void terms3ListBitsOfThingsThere() {
         SeenByOne x = new SeenByOne();
@@ -259,11 +237,11 @@ final class ComesTermsTests {
             for (int j = 0; j < things; j++) {
                 x.set(0, j, -1 & ~(1 << j));
             }
-            list(x, -1, 0, 3);
+            Due.list(x, -1, 0, 3);
             x.set(0, last, -1);
-            list(x, last, 1, 0);
+            Due.list(x, last, 1, 0);
             x.set(0, last, ~(1 << last) & ~(1 << things));
-            list(x, -1, 0, 3);
+            Due.list(x, -1, 0, 3);
         }
     }
 
@@ -271,18 +249,18 @@ final class ComesTermsTests {
     static void terms3ListAnElementForEach() {
         SeenByOne none = new SeenByOne();
         none.row(0, 3, 0);
-        list(none, -1, 0, 3);
+        Due.list(none, -1, 0, 3);
         none.row(0, 3, 160);
         none.set(0, 0, -1);
-        list(none, -1, 0, 3);
-        SeenByOne eight = Due.told(EIGHT);
+        Due.list(none, -1, 0, 3);
+        SeenByOne eight = Due.told(Due.EIGHT);
         int[] enough = {8, 9, 160};
         for (int n : enough) {
             eight.row(0, 0, n);
             for (int j = 0; j < n; j++) {
                 eight.set(0, j, j < 8 ? 255 & ~(1 << j) : 255);
             }
-            list(eight, -1, 0, 3);
+            Due.list(eight, -1, 0, 3);
         }
         eight.row(0, 0, 7);
         Due.is("one too few", eight.list(0, 0), -15);
@@ -290,18 +268,18 @@ final class ComesTermsTests {
 
     /** "WRONG: the first that isn't so; UNLIKE: how many sights are told otherwise": the last, and all of them. */
     static void terms3ListWrongAndUnlike() {
-        SeenByOne x = Due.told(EIGHT);
+        SeenByOne x = Due.told(Due.EIGHT);
         x.row(0, 1, 8);
         for (int j = 0; j < 8; j++) {
             x.set(0, j, 1 << j);
         }
-        list(x, 0, 64, 0);
+        Due.list(x, 0, 64, 0);
         for (int j = 0; j < 7; j++) {
             x.set(0, j, ~(1 << j));
-            list(x, j + 1, 64 - 8 * (j + 1), 0);
+            Due.list(x, j + 1, 64 - 8 * (j + 1), 0);
         }
         x.set(0, 7, ~(1 << 7));
-        list(x, -1, 0, 3);
+        Due.list(x, -1, 0, 3);
     }
 
     /** "FITS: 1 SUMMER alone is as told, 2 winter alone, 3 both, 0 neither" */

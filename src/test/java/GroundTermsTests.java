@@ -1,9 +1,5 @@
 /** Terms, 1. THE GROUND: each bound that it names, on both sides. Its words stand above each test. */
 final class GroundTermsTests {
-    /** All see all, being of one HEIGHT. */
-    private static final String EIGHT = "thing 1 0 0 3 1;thing 1 1 0 3 1;thing 1 2 0 3 1;thing 1 3 0 3 1;thing 1 0 1 3 1;"
-        + "thing 1 1 1 3 1;thing 1 2 1 3 1;thing 1 3 1 3 1";
-
     private GroundTermsTests() {
     }
 
@@ -24,7 +20,7 @@ final class GroundTermsTests {
 
     /** The last of 8 THINGS may be asked of, as every other one. */
     static void terms1TheLastThing() {
-        SeenByOne x = Due.told(EIGHT);
+        SeenByOne x = Due.told(Due.EIGHT);
         Due.is("height(7, 4)", x.height(7, 4), 3);
         Due.is("height(7, 3)", x.height(7, 3), 4);
         Due.is("show(7, 7)", x.show(7, 7), 1);
@@ -139,7 +135,7 @@ final class GroundTermsTests {
 
     /** "SHUT: of each pair of HOUSES whether a shutter is let down .. (at first not)" */
     static void terms1ShutOfEachPair() {
-        SeenByOne x = Due.told(EIGHT);
+        SeenByOne x = Due.told(Due.EIGHT);
         for (int i = 0; i < 8; i++) {
             for (int j = 0; j < 8; j++) {
                 if (i != j) {
@@ -156,7 +152,7 @@ final class GroundTermsTests {
 
     /** SHUTTERS: none, and as many as there may be. */
     static void terms1AllSightsShut() {
-        SeenByOne x = Due.told(EIGHT);
+        SeenByOne x = Due.told(Due.EIGHT);
         Due.is("none", x.status(4), 0);
         for (int i = 0; i < 8; i++) {
             for (int j = 0; j < 8; j++) {
@@ -173,7 +169,7 @@ final class GroundTermsTests {
 
     /** "DRAWN: of each HOUSE whether its curtain is (it sees nothing then; at first not)" */
     static void terms1DrawnOfEachHouse() {
-        SeenByOne x = Due.told(EIGHT);
+        SeenByOne x = Due.told(Due.EIGHT);
         Due.is("none", x.status(5), 0);
         for (int house = 0; house < 8; house++) {
             Due.is("at first not", x.thingOf(house, 6), 0);

@@ -205,139 +205,125 @@ final class GroundTests {
         Due.refused(x, 2, 1, 1, 0, 0, 0, 0);
     }
 
-    private static void faulty(String before, String text, int place) {
-        SeenByOne x = before.isEmpty() ? new SeenByOne() : Due.told(before);
-        Due.put(x, 0, 0, text);
-        Due.is("ground of '" + text + "'", x.ground(0), -6);
-        Due.is("fault of '" + text + "'", x.fault(), place);
-    }
-
-    private static void good(String before, String text, int items) {
-        SeenByOne x = before.isEmpty() ? new SeenByOne() : Due.told(before);
-        Due.put(x, 0, 0, text);
-        Due.is("ground of '" + text + "'", x.ground(0), items);
-        Due.is("fault of '" + text + "'", x.fault(), -1);
-    }
-
     static void promise16FaultInWords() {
-        faulty("", "", 0);
-        faulty("", " far 1", 0);
-        faulty("", "x", 0);
-        faulty("", "Thing 1 0 0 0 0", 0);
-        faulty("", ";", 0);
-        faulty("", "t", 1);
-        faulty("", "s", 1);
-        faulty("", "sa", 1);
-        faulty("", "sx", 1);
-        faulty("", "shu", 3);
-        faulty("", "shun 0 1", 3);
-        faulty("", "suh", 2);
-        faulty("", "summe", 5);
-        faulty("", "summer", 6);
-        faulty("", "summers 1", 6);
-        faulty("", "fax", 2);
-        faulty("", "far", 3);
-        faulty("", "far1", 3);
-        faulty("", "far ", 4);
-        faulty("", "far  1", 4);
-        faulty("", "draws", 4);
-        faulty("", "dra;", 3);
-        faulty("", "far 1;", 6);
-        faulty("", "far 1;;far 2", 6);
-        faulty("", "far 1; far 2", 6);
-        faulty("", "far 1;fur 2", 7);
-        faulty("", "far 1,far 2", 5);
-        faulty("", "far 1 ", 5);
-        good("", "far 1;far 2;far 3", 3);
+        Due.faulty("", "", 0);
+        Due.faulty("", " far 1", 0);
+        Due.faulty("", "x", 0);
+        Due.faulty("", "Thing 1 0 0 0 0", 0);
+        Due.faulty("", ";", 0);
+        Due.faulty("", "t", 1);
+        Due.faulty("", "s", 1);
+        Due.faulty("", "sa", 1);
+        Due.faulty("", "sx", 1);
+        Due.faulty("", "shu", 3);
+        Due.faulty("", "shun 0 1", 3);
+        Due.faulty("", "suh", 2);
+        Due.faulty("", "summe", 5);
+        Due.faulty("", "summer", 6);
+        Due.faulty("", "summers 1", 6);
+        Due.faulty("", "fax", 2);
+        Due.faulty("", "far", 3);
+        Due.faulty("", "far1", 3);
+        Due.faulty("", "far ", 4);
+        Due.faulty("", "far  1", 4);
+        Due.faulty("", "draws", 4);
+        Due.faulty("", "dra;", 3);
+        Due.faulty("", "far 1;", 6);
+        Due.faulty("", "far 1;;far 2", 6);
+        Due.faulty("", "far 1; far 2", 6);
+        Due.faulty("", "far 1;fur 2", 7);
+        Due.faulty("", "far 1,far 2", 5);
+        Due.faulty("", "far 1 ", 5);
+        Due.whole("", "far 1;far 2;far 3", 3);
     }
 
     static void promise16FaultInNumbers() {
-        faulty("", "far 0", 4);
-        faulty("", "far 00", 4);
-        faulty("", "far 000", 4);
-        faulty("", "far 10", 4);
-        faulty("", "far 10;x", 4);
-        faulty("", "far 1x", 5);
-        faulty("", "far 0x", 4);
-        faulty("", "far -1", 4);
-        faulty("", "far 009", 4);
-        faulty("", "far 091", 6);
-        faulty("", "far 1 2", 5);
-        good("", "far 09", 1);
-        good("", "far 1;far 9", 2);
-        faulty("", "summer 2", 7);
-        faulty("", "summer 001", 9);
-        good("", "summer 00;summer 01", 2);
+        Due.faulty("", "far 0", 4);
+        Due.faulty("", "far 00", 4);
+        Due.faulty("", "far 000", 4);
+        Due.faulty("", "far 10", 4);
+        Due.faulty("", "far 10;x", 4);
+        Due.faulty("", "far 1x", 5);
+        Due.faulty("", "far 0x", 4);
+        Due.faulty("", "far -1", 4);
+        Due.faulty("", "far 009", 4);
+        Due.faulty("", "far 091", 6);
+        Due.faulty("", "far 1 2", 5);
+        Due.whole("", "far 09", 1);
+        Due.whole("", "far 1;far 9", 2);
+        Due.faulty("", "summer 2", 7);
+        Due.faulty("", "summer 001", 9);
+        Due.whole("", "summer 00;summer 01", 2);
     }
 
     static void promise16FaultInThings() {
-        good("", "thing 0 0 0 0 0;thing 6 9 9 20 9", 2);
-        good("", "thing 06 09 09 20 09", 1);
-        faulty("", "thing 7 10 0 0 0", 6);
-        faulty("", "thing 12 0 0 0 0", 6);
-        faulty("", "thing 1 10 0 0 0", 8);
-        faulty("", "thing 1 009 0 0 0", 10);
-        faulty("", "thing 1 9 10 0 0", 10);
-        faulty("", "thing 1 9 9 21 0", 12);
-        faulty("", "thing 1 9 9 20 10", 15);
-        faulty("", "thing 1 9 9 20", 14);
-        faulty("", "thing 1 9 9 20 ", 15);
-        faulty("", "thing 1 9 9 20;far 1", 14);
-        faulty("", "thing 1 9 9 20 9 1", 16);
-        faulty("thing 1 5 5 1 1", "thing 1 5 5 0 0", 10);
-        faulty("thing 1 5 5 1 1", "thing 1 5 05", 10);
-        faulty("thing 1 5 5 1 1", "thing 1 5 5x", 10);
-        faulty("thing 1 5 5 1 1", "thing 1 5 5 21 0", 10);
-        good("thing 1 5 5 1 1", "thing 1 5 4 0 0;thing 1 4 5 0 0", 2);
-        faulty("", "thing 0 3 2 1 0;thing 0 3 2 1 0", 26);
+        Due.whole("", "thing 0 0 0 0 0;thing 6 9 9 20 9", 2);
+        Due.whole("", "thing 06 09 09 20 09", 1);
+        Due.faulty("", "thing 7 10 0 0 0", 6);
+        Due.faulty("", "thing 12 0 0 0 0", 6);
+        Due.faulty("", "thing 1 10 0 0 0", 8);
+        Due.faulty("", "thing 1 009 0 0 0", 10);
+        Due.faulty("", "thing 1 9 10 0 0", 10);
+        Due.faulty("", "thing 1 9 9 21 0", 12);
+        Due.faulty("", "thing 1 9 9 20 10", 15);
+        Due.faulty("", "thing 1 9 9 20", 14);
+        Due.faulty("", "thing 1 9 9 20 ", 15);
+        Due.faulty("", "thing 1 9 9 20;far 1", 14);
+        Due.faulty("", "thing 1 9 9 20 9 1", 16);
+        Due.faulty("thing 1 5 5 1 1", "thing 1 5 5 0 0", 10);
+        Due.faulty("thing 1 5 5 1 1", "thing 1 5 05", 10);
+        Due.faulty("thing 1 5 5 1 1", "thing 1 5 5x", 10);
+        Due.faulty("thing 1 5 5 1 1", "thing 1 5 5 21 0", 10);
+        Due.whole("thing 1 5 5 1 1", "thing 1 5 4 0 0;thing 1 4 5 0 0", 2);
+        Due.faulty("", "thing 0 3 2 1 0;thing 0 3 2 1 0", 26);
     }
 
     static void promise16FaultInHouses() {
         String three = "thing 1 0 0 1 1;thing 0 1 1 1 1;thing 4 2 2 2 2";
-        good(three, "shut 0 2;shut 2 0;draw 2", 3);
-        good(three, "shut 00 02", 1);
-        faulty(three, "shut 1 0", 5);
-        faulty(three, "shut 3 0", 5);
-        faulty(three, "shut 1 x", 5);
-        faulty(three, "shut 0 1", 7);
-        faulty(three, "shut 0 0", 7);
-        faulty(three, "shut 00 03", 8);
-        faulty(three, "shut 0", 6);
-        faulty(three, "shut 0 ", 7);
-        faulty(three, "shut 0 2 0", 8);
-        faulty(three, "draw 1", 5);
-        faulty(three, "draw 3", 5);
-        faulty(three, "draw 99", 5);
-        faulty(three, "draw", 4);
-        faulty("", "draw 0", 5);
-        good("", "thing 1 0 0 1 1;draw 0", 2);
-        faulty("", "draw 0;thing 1 0 0 1 1", 5);
-        faulty("", "thing 1 0 0 1 1;draw 1", 21);
+        Due.whole(three, "shut 0 2;shut 2 0;draw 2", 3);
+        Due.whole(three, "shut 00 02", 1);
+        Due.faulty(three, "shut 1 0", 5);
+        Due.faulty(three, "shut 3 0", 5);
+        Due.faulty(three, "shut 1 x", 5);
+        Due.faulty(three, "shut 0 1", 7);
+        Due.faulty(three, "shut 0 0", 7);
+        Due.faulty(three, "shut 00 03", 8);
+        Due.faulty(three, "shut 0", 6);
+        Due.faulty(three, "shut 0 ", 7);
+        Due.faulty(three, "shut 0 2 0", 8);
+        Due.faulty(three, "draw 1", 5);
+        Due.faulty(three, "draw 3", 5);
+        Due.faulty(three, "draw 99", 5);
+        Due.faulty(three, "draw", 4);
+        Due.faulty("", "draw 0", 5);
+        Due.whole("", "thing 1 0 0 1 1;draw 0", 2);
+        Due.faulty("", "draw 0;thing 1 0 0 1 1", 5);
+        Due.faulty("", "thing 1 0 0 1 1;draw 1", 21);
     }
 
     static void promise16FaultWithoutRoom() {
         String seven = "thing 0 0 0 0 0;thing 0 1 0 0 0;thing 0 2 0 0 0;thing 0 3 0 0 0;thing 0 4 0 0 0;"
             + "thing 0 5 0 0 0;thing 0 6 0 0 0";
         String eight = seven + ";thing 1 7 0 0 0";
-        good(seven, "thing 0 7 0 0 0;far 2", 2);
-        faulty(seven, "thing 0 7 0 0 0;thing 0 8 0 0 0", 16);
-        faulty(eight, "thing 0 8 0 0 0", 0);
-        faulty(eight, "thing 7 0 0 0 0", 0);
-        faulty(eight, "thing", 0);
-        faulty(eight, "thingx", 0);
-        faulty(eight, "far 3;thing", 6);
-        faulty(eight, "thinx", 4);
-        faulty(eight, "thin", 4);
-        faulty(eight, "far 3;t", 7);
-        good(eight, "far 3;draw 7;summer 1", 3);
+        Due.whole(seven, "thing 0 7 0 0 0;far 2", 2);
+        Due.faulty(seven, "thing 0 7 0 0 0;thing 0 8 0 0 0", 16);
+        Due.faulty(eight, "thing 0 8 0 0 0", 0);
+        Due.faulty(eight, "thing 7 0 0 0 0", 0);
+        Due.faulty(eight, "thing", 0);
+        Due.faulty(eight, "thingx", 0);
+        Due.faulty(eight, "far 3;thing", 6);
+        Due.faulty(eight, "thinx", 4);
+        Due.faulty(eight, "thin", 4);
+        Due.faulty(eight, "far 3;t", 7);
+        Due.whole(eight, "far 3;draw 7;summer 1", 3);
     }
 
     static void promise16FaultInTheLongestRow() {
         String most = "far 1;".repeat(25);
-        faulty("", most + "summer 01;", 160);
-        faulty("", most + "far 1;far ", 160);
-        faulty("", most + "far 1;summ", 160);
-        good("", "far 1;".repeat(20) + "far 01;".repeat(5) + "far 1", 26);
+        Due.faulty("", most + "summer 01;", 160);
+        Due.faulty("", most + "far 1;far ", 160);
+        Due.faulty("", most + "far 1;summ", 160);
+        Due.whole("", "far 1;".repeat(20) + "far 01;".repeat(5) + "far 1", 26);
     }
 
     static void promise16FaultOfTheLatest() {

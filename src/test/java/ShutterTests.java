@@ -4,10 +4,6 @@ final class ShutterTests {
     private static final String THREE = "thing 1 0 0 3 2;thing 1 2 1 3 0;thing 1 3 5 3 1";
     private static final String SQUARE = "thing 1 0 0 3 0;thing 1 1 0 3 0;thing 1 0 1 3 0;thing 1 1 1 3 0";
 
-    /** All see all, being of one HEIGHT. */
-    private static final String EIGHT = "thing 1 0 0 3 1;thing 1 1 0 3 1;thing 1 2 0 3 1;thing 1 3 0 3 1;thing 1 0 1 3 1;"
-        + "thing 1 1 1 3 1;thing 1 2 1 3 1;thing 1 3 1 3 1";
-
     private ShutterTests() {
     }
 
@@ -29,26 +25,20 @@ final class ShutterTests {
         Due.refused(x, 2, 2, 0, 0, 0, 4, 0);
     }
 
-    private static void cheapest(SeenByOne x, int cost, int hopeless, int shutters) {
-        Due.is("cheapest(0)", x.cheapest(0), cost);
-        Due.is("cheapest(1)", x.cheapest(1), hopeless);
-        Due.is("cheapest(2)", x.cheapest(2), shutters);
-    }
-
     static void promise23Cheapest() {
         SeenByOne x = Due.told(THREE);
-        cheapest(x, 4 + 2 + 5, 0, 3);
+        Due.cheapest(x, 4 + 2 + 5, 0, 3);
         x.shut(1, 2, true);
-        cheapest(x, 4 + 2, 0, 2);
+        Due.cheapest(x, 4 + 2, 0, 2);
         x.shut(0, 2, true);
-        cheapest(x, 4 + 2, 4, 2);
+        Due.cheapest(x, 4 + 2, 4, 2);
         x.draw(2, true);
-        cheapest(x, 0, 4, 0);
+        Due.cheapest(x, 0, 4, 0);
         x.draw(0, true);
-        cheapest(x, 0, 2 + 4, 0);
+        Due.cheapest(x, 0, 2 + 4, 0);
         x.draw(1, true);
-        cheapest(x, 0, 7, 0);
-        cheapest(new SeenByOne(), 0, 0, 0);
+        Due.cheapest(x, 0, 7, 0);
+        Due.cheapest(new SeenByOne(), 0, 0, 0);
     }
 
     static void promise23CheapestByKinds() {
@@ -56,9 +46,9 @@ final class ShutterTests {
         Due.is("SEERS of the TOWER", x.seers(0), 6);
         Due.is("SEERS of the HOUSE", x.seers(1), 4);
         Due.is("SEERS of the SHY one", x.seers(2), 2);
-        cheapest(x, 4 + 5, 0, 2);
+        Due.cheapest(x, 4 + 5, 0, 2);
         x.shut(1, 2, true);
-        cheapest(x, 4, 0, 1);
+        Due.cheapest(x, 4, 0, 1);
         Due.is("cheapest(3)", x.cheapest(3), -5);
         Due.is("cheapest(-1)", x.cheapest(-1), -5);
         Due.refused(x, 0, 0, 0, 0, 2, 0, 0);
@@ -83,49 +73,42 @@ final class ShutterTests {
         Due.refused(y, 2, 1, 0, 0, 0, 0, 0);
     }
 
-    private static void curtains(SeenByOne x, int set, int right, int both, int rightInBoth) {
-        Due.is("curtains(0)", x.curtains(0), set);
-        Due.is("curtains(1)", x.curtains(1), right);
-        Due.is("curtains(2)", x.curtains(2), both);
-        Due.is("curtains(3)", x.curtains(3), rightInBoth);
-    }
-
     static void promise25Curtains() {
         SeenByOne x = Due.told(SQUARE);
-        curtains(x, 7, 3, 7, 6);
+        Due.curtains(x, 7, 3, 7, 6);
         x.draw(3, true);
-        curtains(x, 7, 3, 7, 6);
+        Due.curtains(x, 7, 3, 7, 6);
         Due.is("nothing is changed", x.status(5), 1);
         x.shut(3, 0, true);
-        curtains(x, 3, 3, 3, 6);
-        curtains(new SeenByOne(), 0, 0, 0, 0);
-        curtains(Due.told("thing 0 0 0 1 1;thing 1 1 1 1 1"), 0, 0, 0, 0);
-        curtains(Due.told("thing 0 0 0 1 1;thing 4 1 1 1 1"), 0, 1, 0, 2);
-        curtains(Due.told("thing 4 0 0 3 0;thing 4 1 0 3 0;draw 0;draw 1"), 3, 2, 3, 4);
+        Due.curtains(x, 3, 3, 3, 6);
+        Due.curtains(new SeenByOne(), 0, 0, 0, 0);
+        Due.curtains(Due.told("thing 0 0 0 1 1;thing 1 1 1 1 1"), 0, 0, 0, 0);
+        Due.curtains(Due.told("thing 0 0 0 1 1;thing 4 1 1 1 1"), 0, 1, 0, 2);
+        Due.curtains(Due.told("thing 4 0 0 3 0;thing 4 1 0 3 0;draw 0;draw 1"), 3, 2, 3, 4);
     }
 
     /** Two are RIGHT with 2 DRAWN, or with 0 and 1. */
     static void promise25CurtainsOfTheFewest() {
         SeenByOne x = Due.told("thing 4 0 0 3 0;thing 1 1 0 3 0;thing 4 0 1 3 0;shut 1 0");
-        curtains(x, 4, 2, 4, 4);
+        Due.curtains(x, 4, 2, 4, 4);
     }
 
     static void promise25CurtainsOfEight() {
-        SeenByOne x = Due.told(EIGHT);
-        curtains(x, 127, 7, 127, 14);
+        SeenByOne x = Due.told(Due.EIGHT);
+        Due.curtains(x, 127, 7, 127, 14);
     }
 
     /** The TREE stands between 0 and 1 in summer; in winter they see each other. */
     static void promise25CurtainsInBoth() {
         SeenByOne x = Due.told("thing 1 0 0 3 0;thing 4 2 0 3 0;thing 2 1 0 3 9");
-        curtains(x, 0, 1, 1, 1 + 2);
+        Due.curtains(x, 0, 1, 1, 1 + 2);
         Due.is("it is SUMMER still", x.ask(0, 0), 1);
-        curtains(x, 1, 2, 1, 1 + 2);
+        Due.curtains(x, 1, 2, 1, 1 + 2);
         Due.is("it is winter still", x.status(2), 0);
         SeenByOne y = Due.told("thing 4 0 0 3 0;thing 4 2 0 3 0;thing 2 1 0 3 9");
-        curtains(y, 0, 2, 3, 4);
+        Due.curtains(y, 0, 2, 3, 4);
         y.ask(0, 0);
-        curtains(y, 3, 2, 3, 4);
+        Due.curtains(y, 3, 2, 3, 4);
     }
 
     static void promise25CurtainsRefusals() {
@@ -151,7 +134,7 @@ final class ShutterTests {
     }
 
     static void promise35ShutsOfEight() {
-        SeenByOne x = Due.told(EIGHT);
+        SeenByOne x = Due.told(Due.EIGHT);
         int cheapest = x.cheapest(0);
         Due.is("cheapest(2)", x.cheapest(2), 8 * 6);
         Due.is("shuts()", x.shuts(), cheapest);

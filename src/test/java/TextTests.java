@@ -13,34 +13,18 @@ final class TextTests {
     private TextTests() {
     }
 
-    private static void faulty(String before, String text, int place) {
-        SeenByOne x = Due.told(before);
-        Due.put(x, 0, 0, text);
-        Due.is("ground of '" + text + "'", x.ground(0), -6);
-        Due.is("fault of '" + text + "'", x.fault(), place);
-        Due.is("counted", x.status(16), 1);
-    }
-
-    private static void whole(String before, String text, int items) {
-        SeenByOne x = Due.told(before);
-        Due.put(x, 0, 0, text);
-        Due.is("ground of '" + text + "'", x.ground(0), items);
-        Due.is("fault of '" + text + "'", x.fault(), -1);
-        Due.is("counted", x.status(16), 0);
-    }
-
     /** "ITEM, then any number of times ; and ITEM": none, one, two, as many as a ROW can hold. */
     static void terms1TextOfItems() {
-        faulty(BEFORE, "", 0);
-        whole(BEFORE, "far 1", 1);
-        whole(BEFORE, "far 1;far 2", 2);
-        whole(BEFORE, "far 1" + ";far 2".repeat(25), 26);
-        whole(BEFORE, EVERY_ITEM, 5);
-        faulty(BEFORE, ";far 1", 0);
-        faulty(BEFORE, "far 1;", 6);
-        faulty(BEFORE, "far 1;;far 2", 6);
-        faulty(BEFORE, "far 1,far 2", 5);
-        faulty(BEFORE, "far 1far 2", 5);
+        Due.faulty(BEFORE, "", 0);
+        Due.whole(BEFORE, "far 1", 1);
+        Due.whole(BEFORE, "far 1;far 2", 2);
+        Due.whole(BEFORE, "far 1" + ";far 2".repeat(25), 26);
+        Due.whole(BEFORE, EVERY_ITEM, 5);
+        Due.faulty(BEFORE, ";far 1", 0);
+        Due.faulty(BEFORE, "far 1;", 6);
+        Due.faulty(BEFORE, "far 1;;far 2", 6);
+        Due.faulty(BEFORE, "far 1,far 2", 5);
+        Due.faulty(BEFORE, "far 1far 2", 5);
     }
 
     /** "(the number of elements, if it ends too early)": wherever no ITEM ends. */
@@ -48,9 +32,9 @@ final class TextTests {
         for (int length = 0; length < EVERY_ITEM.length(); length++) {
             String begun = EVERY_ITEM.substring(0, length);
             if (EVERY_ITEM.charAt(length) == ';') {
-                whole(BEFORE, begun, begun.split(";").length);
+                Due.whole(BEFORE, begun, begun.split(";").length);
             } else {
-                faulty(BEFORE, begun, length);
+                Due.faulty(BEFORE, begun, length);
             }
         }
     }
@@ -60,53 +44,53 @@ final class TextTests {
         char[] signs = {'~', 0, '\n', 255, 'T', 'x', '-', ',', '/', ':'};
         for (int place = 0; place < EVERY_ITEM.length(); place++) {
             for (char sign : signs) {
-                faulty(BEFORE, EVERY_ITEM.substring(0, place) + sign + EVERY_ITEM.substring(place + 1), place);
+                Due.faulty(BEFORE, EVERY_ITEM.substring(0, place) + sign + EVERY_ITEM.substring(place + 1), place);
             }
         }
-        faulty(BEFORE, EVERY_ITEM + "~", EVERY_ITEM.length());
-        faulty(BEFORE, EVERY_ITEM + " ", EVERY_ITEM.length());
+        Due.faulty(BEFORE, EVERY_ITEM + "~", EVERY_ITEM.length());
+        Due.faulty(BEFORE, EVERY_ITEM + " ", EVERY_ITEM.length());
     }
 
     /** The first of two that can't stand. */
     static void terms1TextFirstOfTwoFaults() {
-        faulty(BEFORE, "far 0;far 10", 4);
-        faulty(BEFORE, "far 1;fur 0", 7);
-        faulty(BEFORE, "thing 7 10 10 21 10", 6);
-        faulty(BEFORE, "thing 6 10 10 21 10", 8);
-        faulty(BEFORE, "thing 6 9 10 21 10", 10);
-        faulty(BEFORE, "thing 6 9 9 21 10", 12);
-        faulty(BEFORE, "thing 6 9 9 20 10", 15);
-        faulty(BEFORE, "shut 1 1", 5);
-        faulty(BEFORE, "summer 2x", 7);
-        faulty(BEFORE, "far 0", 4);
+        Due.faulty(BEFORE, "far 0;far 10", 4);
+        Due.faulty(BEFORE, "far 1;fur 0", 7);
+        Due.faulty(BEFORE, "thing 7 10 10 21 10", 6);
+        Due.faulty(BEFORE, "thing 6 10 10 21 10", 8);
+        Due.faulty(BEFORE, "thing 6 9 10 21 10", 10);
+        Due.faulty(BEFORE, "thing 6 9 9 21 10", 12);
+        Due.faulty(BEFORE, "thing 6 9 9 20 10", 15);
+        Due.faulty(BEFORE, "shut 1 1", 5);
+        Due.faulty(BEFORE, "summer 2x", 7);
+        Due.faulty(BEFORE, "far 0", 4);
     }
 
     /** Words that begin alike: the first letter that none of them has. */
     static void terms1TextWords() {
-        faulty(BEFORE, "sammer 0", 1);
-        faulty(BEFORE, "shmmer 0", 2);
-        faulty(BEFORE, "suut 0 2", 2);
-        faulty(BEFORE, "sumer 0", 3);
-        faulty(BEFORE, "shot 0 2", 2);
-        faulty(BEFORE, "tar 1", 1);
-        faulty(BEFORE, "fhing 1", 1);
-        faulty(BEFORE, "drow 0", 2);
-        faulty(BEFORE, "things 1 9 9 2 5", 5);
-        faulty(BEFORE, "FAR 1", 0);
+        Due.faulty(BEFORE, "sammer 0", 1);
+        Due.faulty(BEFORE, "shmmer 0", 2);
+        Due.faulty(BEFORE, "suut 0 2", 2);
+        Due.faulty(BEFORE, "sumer 0", 3);
+        Due.faulty(BEFORE, "shot 0 2", 2);
+        Due.faulty(BEFORE, "tar 1", 1);
+        Due.faulty(BEFORE, "fhing 1", 1);
+        Due.faulty(BEFORE, "drow 0", 2);
+        Due.faulty(BEFORE, "things 1 9 9 2 5", 5);
+        Due.faulty(BEFORE, "FAR 1", 0);
     }
 
     /** "One blank between words and NUMBERS": none, two, and where there is none. */
     static void terms1TextOneBlank() {
         for (int place = 0; place < EVERY_ITEM.length(); place++) {
             char sign = EVERY_ITEM.charAt(place);
-            faulty(BEFORE, EVERY_ITEM.substring(0, place) + " " + EVERY_ITEM.substring(place), sign == ' ' ? place + 1 : place);
+            Due.faulty(BEFORE, EVERY_ITEM.substring(0, place) + " " + EVERY_ITEM.substring(place), sign == ' ' ? place + 1 : place);
         }
-        faulty(BEFORE, "thing1 9 9 2 5", 5);
-        faulty(BEFORE, "shut0 2", 4);
-        faulty(BEFORE, "draw0", 4);
-        faulty(BEFORE, "summer0", 6);
-        faulty(BEFORE, "far3", 3);
-        faulty(BEFORE, "far\t3", 3);
+        Due.faulty(BEFORE, "thing1 9 9 2 5", 5);
+        Due.faulty(BEFORE, "shut0 2", 4);
+        Due.faulty(BEFORE, "draw0", 4);
+        Due.faulty(BEFORE, "summer0", 6);
+        Due.faulty(BEFORE, "far3", 3);
+        Due.faulty(BEFORE, "far\t3", 3);
     }
 
     /** "NUMBERS (1 or 2 digits)": none, one, two, three. */
@@ -116,10 +100,10 @@ final class TextTests {
         for (int n = 0; n < behind.length; n++) {
             String digit = last[n].substring(1, 2);
             String rest = last[n].substring(2);
-            whole(BEFORE, behind[n] + " " + digit + rest, 1);
-            whole(BEFORE, behind[n] + " 0" + digit + rest, 1);
-            faulty(BEFORE, behind[n] + " " + rest, behind[n].length() + 1);
-            faulty(BEFORE, behind[n] + " 0" + digit + "0" + rest, behind[n].length() + 3);
+            Due.whole(BEFORE, behind[n] + " " + digit + rest, 1);
+            Due.whole(BEFORE, behind[n] + " 0" + digit + rest, 1);
+            Due.faulty(BEFORE, behind[n] + " " + rest, behind[n].length() + 1);
+            Due.faulty(BEFORE, behind[n] + " 0" + digit + "0" + rest, behind[n].length() + 3);
         }
     }
 
@@ -129,10 +113,10 @@ final class TextTests {
             String[] forms = number < 10 ? new String[] {"" + number, "0" + number} : new String[] {"" + number};
             for (String form : forms) {
                 if (may.test(number)) {
-                    whole(BEFORE, head + form + tail, 1);
+                    Due.whole(BEFORE, head + form + tail, 1);
                 } else {
-                    faulty(BEFORE, head + form + tail, head.length());
-                    faulty(BEFORE, head + form, head.length());
+                    Due.faulty(BEFORE, head + form + tail, head.length());
+                    Due.faulty(BEFORE, head + form, head.length());
                 }
             }
         }
@@ -157,13 +141,13 @@ final class TextTests {
         numbers("shut 3 ", "", house -> house == 0 || house == 2);
         for (int number = 0; number < 100; number++) {
             if (number == 0 || number == 2 || number == 3) {
-                whole(BEFORE, "shut " + number + (number == 0 ? " 2" : " 0"), 1);
-                faulty(BEFORE, "shut " + number + " " + number, 7);
-                faulty(BEFORE, "shut 0" + number + " " + number, 8);
-                faulty(BEFORE, "shut " + number + " 0" + number, 7);
+                Due.whole(BEFORE, "shut " + number + (number == 0 ? " 2" : " 0"), 1);
+                Due.faulty(BEFORE, "shut " + number + " " + number, 7);
+                Due.faulty(BEFORE, "shut 0" + number + " " + number, 8);
+                Due.faulty(BEFORE, "shut " + number + " 0" + number, 7);
             } else {
-                faulty(BEFORE, "shut " + number + " 0", 5);
-                faulty(BEFORE, "shut " + number, 5);
+                Due.faulty(BEFORE, "shut " + number + " 0", 5);
+                Due.faulty(BEFORE, "shut " + number, 5);
             }
         }
     }
@@ -171,43 +155,43 @@ final class TextTests {
     /** "(what there is no room for can't stand: its word ..)": the eighth stands, the ninth doesn't. */
     static void terms1TextWithoutRoom() {
         String seven = FULL.substring(0, FULL.lastIndexOf(';'));
-        whole(seven, "thing 1 9 9 1 1", 1);
-        faulty(seven, "thing 1 9 9 1 1;thing 1 8 9 1 1", 16);
-        faulty(FULL, "thing 1 9 9 1 1", 0);
-        faulty(FULL, "far 1;thing 1 9 9 1 1", 6);
-        faulty(FULL, "thing 7 0 0 21 10", 0);
-        faulty(FULL, "thing 1 9 9 1 1;far 0", 0);
-        whole(FULL, "far 1;draw 7;summer 0", 3);
-        whole("far 9", FULL, 8);
-        faulty("far 9", FULL + ";thing 1 9 9 1 1", FULL.length() + 1);
+        Due.whole(seven, "thing 1 9 9 1 1", 1);
+        Due.faulty(seven, "thing 1 9 9 1 1;thing 1 8 9 1 1", 16);
+        Due.faulty(FULL, "thing 1 9 9 1 1", 0);
+        Due.faulty(FULL, "far 1;thing 1 9 9 1 1", 6);
+        Due.faulty(FULL, "thing 7 0 0 21 10", 0);
+        Due.faulty(FULL, "thing 1 9 9 1 1;far 0", 0);
+        Due.whole(FULL, "far 1;draw 7;summer 0", 3);
+        Due.whole("far 9", FULL, 8);
+        Due.faulty("far 9", FULL + ";thing 1 9 9 1 1", FULL.length() + 1);
     }
 
     /** Details: "Whether there is room for a word is asked when its letters stand whole: until then .." */
     static void terms1TextRoomIsAskedOfAWholeWord() {
         String word = "thing";
         for (int length = 0; length < word.length(); length++) {
-            faulty(FULL, word.substring(0, length), length);
-            faulty(FULL, word.substring(0, length) + "~", length);
-            faulty(FULL, "far 1;" + word.substring(0, length), 6 + length);
+            Due.faulty(FULL, word.substring(0, length), length);
+            Due.faulty(FULL, word.substring(0, length) + "~", length);
+            Due.faulty(FULL, "far 1;" + word.substring(0, length), 6 + length);
         }
-        faulty(FULL, word, 0);
-        faulty(FULL, word + "~", 0);
-        faulty(FULL, word + " ", 0);
-        faulty(FULL, "far 1;" + word, 6);
+        Due.faulty(FULL, word, 0);
+        Due.faulty(FULL, word + "~", 0);
+        Due.faulty(FULL, word + " ", 0);
+        Due.faulty(FULL, "far 1;" + word, 6);
     }
 
     /** "a PLACE that is taken: Y": one of before, one of this text; another X or Y is free. */
     static void terms1TextPlaceThatIsTaken() {
-        faulty(BEFORE, "thing 1 3 4 1 1", 10);
-        faulty(BEFORE, "thing 1 03 04 1 1", 11);
-        faulty(BEFORE, "thing 1 3 4", 10);
-        faulty(BEFORE, "thing 1 3 4~", 10);
-        faulty(BEFORE, "thing 1 3 4 21 10", 10);
-        faulty(BEFORE, "thing 1 7 6 1 1;thing 1 7 6 1 1", 26);
-        whole(BEFORE, "thing 1 7 6 1 1;thing 1 6 7 1 1;thing 1 7 7 1 1;thing 1 6 6 1 1", 4);
-        whole(BEFORE, "thing 1 3 3 1 1;thing 1 4 4 1 1;thing 1 4 3 1 1", 3);
-        faulty("thing 1 0 0 1 1", "thing 1 0 0 1 1", 10);
-        faulty("thing 1 9 9 1 1", "thing 1 9 9 1 1", 10);
+        Due.faulty(BEFORE, "thing 1 3 4 1 1", 10);
+        Due.faulty(BEFORE, "thing 1 03 04 1 1", 11);
+        Due.faulty(BEFORE, "thing 1 3 4", 10);
+        Due.faulty(BEFORE, "thing 1 3 4~", 10);
+        Due.faulty(BEFORE, "thing 1 3 4 21 10", 10);
+        Due.faulty(BEFORE, "thing 1 7 6 1 1;thing 1 7 6 1 1", 26);
+        Due.whole(BEFORE, "thing 1 7 6 1 1;thing 1 6 7 1 1;thing 1 7 7 1 1;thing 1 6 6 1 1", 4);
+        Due.whole(BEFORE, "thing 1 3 3 1 1;thing 1 4 4 1 1;thing 1 4 3 1 1", 3);
+        Due.faulty("thing 1 0 0 1 1", "thing 1 0 0 1 1", 10);
+        Due.faulty("thing 1 9 9 1 1", "thing 1 9 9 1 1", 10);
     }
 
     /** "All is told over what there is, or nothing": whatever stands in front of a FAULT, nothing. */
@@ -278,11 +262,11 @@ final class TextTests {
     /** 160 elements are read to the last one. */
     static void terms1TextOfTheLongestRow() {
         String nearly = "far 1;".repeat(25);
-        whole(BEFORE, "far 01;".repeat(5) + "far 1;".repeat(20) + "far 9", 26);
-        faulty(BEFORE, nearly + "far 1;fur ", 157);
-        faulty(BEFORE, nearly + "summer 02;", 157);
-        faulty(BEFORE, nearly + "summer 01;", 160);
-        faulty(BEFORE, nearly + "summer 001", 159);
+        Due.whole(BEFORE, "far 01;".repeat(5) + "far 1;".repeat(20) + "far 9", 26);
+        Due.faulty(BEFORE, nearly + "far 1;fur ", 157);
+        Due.faulty(BEFORE, nearly + "summer 02;", 157);
+        Due.faulty(BEFORE, nearly + "summer 01;", 160);
+        Due.faulty(BEFORE, nearly + "summer 001", 159);
     }
 
     /** Promise 16: "The FAULT of the latest ground() that came to a ROW; NONE: there was none, or none yet." */

@@ -105,58 +105,52 @@ final class WhoTests {
         Due.refused(x, 0, 0, 0, 0, 2, 0, 0);
     }
 
-    private static void list(SeenByOne x, int first, int unlike, int fits) {
-        Due.is("list(0, 0)", x.list(0, 0), first);
-        Due.is("list(0, 1)", x.list(0, 1), unlike);
-        Due.is("list(0, 2)", x.list(0, 2), fits);
-    }
-
     static void promise33List() {
         SeenByOne x = Due.told("thing 3 0 0 3 0;thing 1 1 0 3 0;thing 5 0 1 3 0;thing 0 1 1 9 0");
         Due.put(x, 0, 0, 2, 1, 3, 0);
-        list(x, -1, 0, 3);
+        Due.list(x, -1, 0, 3);
         Due.put(x, 0, 0, 2 - 16, 1 + 32, 3 + 64, 16, 99);
-        list(x, -1, 0, 3);
+        Due.list(x, -1, 0, 3);
         Due.put(x, 0, 3, 2 + (1L << 40), 1 + (15L << 32), 3, 0);
-        list(x, -1, 0, 3);
+        Due.list(x, -1, 0, 3);
         Due.put(x, 0, 2, 2, 1, 3, 1);
-        list(x, 3, 1, 0);
+        Due.list(x, 3, 1, 0);
         Due.put(x, 0, 1, 2, 2, 15, -1);
-        list(x, 1, 2 + 2 + 4, 0);
+        Due.list(x, 1, 2 + 2 + 4, 0);
         Due.put(x, 0, 1, 3, 1, 3, 0);
-        list(x, 0, 1, 0);
+        Due.list(x, 0, 1, 0);
         x.shut(0, 2, true);
         Due.put(x, 0, 1, 2, 1, 2, 0);
-        list(x, -1, 0, 3);
+        Due.list(x, -1, 0, 3);
         x.draw(1, true);
         Due.put(x, 0, 1, 0, 1, 0, 0);
-        list(x, -1, 0, 3);
+        Due.list(x, -1, 0, 3);
         SeenByOne none = new SeenByOne();
         none.row(0, 0, 0);
-        list(none, -1, 0, 3);
+        Due.list(none, -1, 0, 3);
         Due.put(none, 0, 0, 7);
-        list(none, -1, 0, 3);
+        Due.list(none, -1, 0, 3);
     }
 
     static void promise33ListFits() {
         SeenByOne x = Due.told(BEHIND_A_TREE);
         Due.put(x, 0, 0, 0, 0, 0);
-        list(x, -1, 0, 1);
+        Due.list(x, -1, 0, 1);
         Due.put(x, 0, 0, 2, 1, 0);
-        list(x, 0, 2, 2);
+        Due.list(x, 0, 2, 2);
         Due.put(x, 0, 0, 2, 0, 0);
-        list(x, 0, 1, 0);
+        Due.list(x, 0, 1, 0);
         x.ask(0, 0);
-        list(x, 1, 1, 0);
+        Due.list(x, 1, 1, 0);
         Due.put(x, 0, 0, 0, 0, 0);
-        list(x, 0, 2, 1);
+        Due.list(x, 0, 2, 1);
         Due.put(x, 0, 0, 2, 1, 0);
-        list(x, -1, 0, 2);
+        Due.list(x, -1, 0, 2);
         Due.is("it is winter still", x.status(2), 0);
         x.draw(0, true);
         x.draw(1, true);
         Due.put(x, 0, 0, 0, 0, 0);
-        list(x, -1, 0, 3);
+        Due.list(x, -1, 0, 3);
     }
 
     static void promise33ListRefusals() {
