@@ -161,10 +161,14 @@ final class GroundTermsTests {
         }
         Due.is("all", x.status(4), 56);
         for (int house = 0; house < 8; house++) {
+            x.draw(house, true);
+        }
+        for (int house = 0; house < 8; house++) {
             Due.is("SEERS", x.seers(house), 0);
         }
-        Due.is("opens()", x.opens(), 56);
+        Due.is("opens(), curtains too", x.opens(), 56 + 8);
         Due.is("none", x.status(4), 0);
+        Due.is("opens() of none", x.opens(), 0);
     }
 
     /** "DRAWN: of each HOUSE whether its curtain is (it sees nothing then; at first not)" */

@@ -1,6 +1,6 @@
 /**
  * REFUSALS, promise by promise: each one by itself, the first of two that fit at once, and that nothing
- * changes but how many there were.
+ * changes but how many there were; and what changes nothing without being refused.
  */
 final class RefusalTests {
     private static final int MOST = Integer.MAX_VALUE;
@@ -455,6 +455,45 @@ final class RefusalTests {
     static void promise42RestoreRefused() {
         refused(SeenByOne::new, "restore() of a new one", -6, x -> x.restore());
         refused(RefusalTests::withoutImage, "restore()", -6, x -> x.restore());
+    }
+
+    private static void unchanged(String name, Call call) {
+        SeenByOne x = seven();
+        SeenByOne unasked = seven();
+        call.on(x);
+        for (int code = 1; code <= 7; code++) {
+            Due.is(name + ", refused as -" + code, x.status(10 + code), unasked.status(10 + code));
+        }
+        Whole.same("behind " + name, x, unasked);
+        Due.is("restore() behind " + name, x.restore(), unasked.restore());
+        Whole.same("restored behind " + name, x, unasked);
+    }
+
+    /** "3. WHAT COMES OF IT (nothing is changed)" */
+    static void terms3NothingIsChanged() {
+        unchanged("cost(0, 2)", x -> x.cost(0, 2));
+        unchanged("keeps(6)", x -> x.keeps(6));
+        for (int what = 0; what < 4; what++) {
+            int asked = what;
+            unchanged("curtains(" + what + ")", x -> x.curtains(asked));
+        }
+        for (int what = 0; what < 3; what++) {
+            int asked = what;
+            unchanged("cheapest(" + what + ")", x -> x.cheapest(asked));
+            unchanged("list(1, " + what + ")", x -> x.list(1, asked));
+        }
+        unchanged("newly(0)", x -> x.newly(0));
+        unchanged("newly(20)", x -> x.newly(20));
+        unchanged("storey(5)", x -> x.storey(5));
+        unchanged("blinded(5)", x -> x.blinded(5));
+        unchanged("felled(1)", x -> x.felled(1));
+        unchanged("felled(3)", x -> x.felled(3));
+        unchanged("pairs()", x -> x.pairs());
+        unchanged("back(0)", x -> x.back(0));
+        unchanged("most()", x -> x.most());
+        unchanged("night(1)", x -> x.night(1));
+        unchanged("bars(0, 2)", x -> x.bars(0, 2));
+        unchanged("says(2, 1)", x -> x.says(2, 1));
     }
 
     /** These refuse nothing, whatever they are given. */
