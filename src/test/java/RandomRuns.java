@@ -1,13 +1,16 @@
 /** Runs of drawn calls, each asked of the class and of Plain: the answers must be the same. */
 final class RandomRuns {
-    private static final int RUNS = 300;
-    private static final int CALLS = 300;
+    private static final int RUNS = 1500;
+    private static final int MOST_CALLS = 512;
+    /** A text put into a ROW and told, with what is asked behind it. */
+    private static final int MOST_CALLS_DRAWN_AT_ONCE = 170;
     private static final int[] ODD = {-1, -2, 7, 8, 9, 10, 20, 21, 100, 160, 161, Integer.MAX_VALUE, Integer.MIN_VALUE};
 
     private long drawn;
     private final SeenByOne x = new SeenByOne();
     private final Plain y = new Plain();
     private final int wideness;
+    private int calls = 0;
 
     private RandomRuns(int run) {
         drawn = 88172645463325252L + 1000003L * run;
@@ -46,7 +49,7 @@ final class RandomRuns {
     static void ruleAnswersAsPlain() {
         for (int run = 0; run < RUNS; run++) {
             RandomRuns runs = new RandomRuns(run);
-            for (int call = 0; call < CALLS; call++) {
+            for (int call = 0; runs.calls + MOST_CALLS_DRAWN_AT_ONCE <= MOST_CALLS; call++) {
                 int wrongBefore = Due.wrong;
                 runs.drawCall(call < 10 ? 8 : runs.below(44), "run " + run + " call " + call + " ");
                 if (Due.wrong != wrongBefore) {
@@ -57,6 +60,7 @@ final class RandomRuns {
     }
 
     private void drawCall(int which, String call) {
+        calls += 3;
         if (which < 8) {
             shelves(which, call);
         } else if (which < 15) {
@@ -167,6 +171,7 @@ final class RandomRuns {
             x.set(7, i, text.charAt(i));
             y.set(7, i, text.charAt(i));
         }
+        calls += size + 3;
         Due.is(call + "ground '" + text + "'", x.ground(7), y.ground(7));
         Due.is(call + "fault '" + text + "'", x.fault(), y.fault());
         int s = mostly(8);
@@ -237,6 +242,7 @@ final class RandomRuns {
         }
         x.ask(0, was);
         y.ask(0, was);
+        calls += size + 3;
         Due.is(call + "list " + what, x.list(6, what), y.list(6, what));
         int s = mostly(8);
         Due.is(call + "list " + what, x.list(s, what), y.list(s, what));

@@ -6,7 +6,8 @@ import java.util.Comparator;
 /** Rule 7 of LANGUAGE.md: no call throws, whatever it is given, in whatever state. */
 final class WildRuns {
     private static final int RUNS = 200;
-    private static final int CALLS = 512;
+    /** Of 512 that are promised: status() is asked behind them. */
+    private static final int CALLS = 511;
     private static final int[] WILD = {
         0, 1, 2, 3, 4, 5, 6, 7, 8, 9, 20, 21, 30, 100, 159, 160, 161, 255, 256, -1, -2, -160,
         Integer.MAX_VALUE, Integer.MAX_VALUE - 1, Integer.MIN_VALUE, Integer.MIN_VALUE + 1,
