@@ -76,6 +76,21 @@ final class ComesTermsTests {
         Due.is("the dearest that is a SEER", towers.keeps(0), 2);
     }
 
+    /** Just SHY ones keep none: not those of the KINDS beside SHY. */
+    static void terms3KeepsByKind() {
+        int[] kinds = {1, 3, 4, 5};
+        int[] kept = {2, 2, -1, 2};
+        int[] costs = {3 + 1 + 2, 3, 3 + 4 + 1 + 2, 3};
+        int[] shutters = {3, 1, 4, 1};
+        for (int n = 0; n < 4; n++) {
+            SeenByOne x = Due.told("thing " + kinds[n] + " 0 0 3 2;thing 1 1 0 3 0;thing 1 2 2 3 0");
+            Due.is("keeps(0) of KIND " + kinds[n], x.keeps(0), kept[n]);
+            Due.cheapest(x, costs[n], 0, shutters[n]);
+            Due.is("shuts() with KIND " + kinds[n], x.shuts(), costs[n]);
+            Due.is("right() with KIND " + kinds[n], x.right(), 7);
+        }
+    }
+
     /** Promise 35: "SHUTTERS of CHEAPEST are let down in truth": none to let down, and as many as there may be. */
     static void promise35ShutsNoneAndMost() {
         SeenByOne two = Due.told(TWO);
