@@ -190,6 +190,10 @@ final class ComesTermsTests {
         Due.is("of one HOUSE", Due.told(ONE).pairs(), 0);
         Due.is("of two", Due.told(TWO).pairs(), 1);
         Due.is("one way alone", Due.told(TWO + ";shut 1 0").pairs(), 0);
+        Due.is("with a TOWER, the first", Due.told("thing 3 0 0 3 0;thing 1 1 0 3 0").pairs(), 1);
+        Due.is("with a TOWER, the last", Due.told("thing 1 0 0 3 0;thing 3 1 0 3 0").pairs(), 1);
+        Due.is("of two TOWERS", Due.told("thing 3 0 0 3 0;thing 3 1 0 3 0").pairs(), 1);
+        Due.is("with a BLIND one, the last", Due.told("thing 1 0 0 3 0;thing 5 1 0 3 0").pairs(), 0);
         Due.is("of eight", Due.told(Due.EIGHT).pairs(), 28);
         Due.is("of eight, one DRAWN", Due.told(Due.EIGHT + ";draw 7").pairs(), 21);
     }

@@ -97,6 +97,42 @@ final class ImageTests {
         }
     }
 
+    /** "SHELVES with THINGS hold those of these numbers, or NOTHING": whatever their KINDS. */
+    static void promise42RestoreOfEachKind() {
+        SeenByOne x = new SeenByOne();
+        for (int kind = 0; kind < 7; kind++) {
+            x.thing(kind, kind, 0, 3, 1);
+            x.show(kind, kind);
+        }
+        x.image();
+        x.thing(1, 9, 9, 3, 1);
+        x.show(7, 7);
+        Due.is("restore()", x.restore(), 7);
+        for (int kind = 0; kind < 7; kind++) {
+            Due.is("holds(" + kind + ")", x.holds(kind), kind);
+            Due.is("says(" + kind + ", " + kind + ") isn't refused", x.says(kind, kind) >= 0 ? 1 : 0, 1);
+        }
+        Due.is("the one that isn't there", x.holds(7), -1);
+    }
+
+    /** The last THING that THE IMAGE has, and the first that it hasn't. */
+    static void promise42RestoreOfTheLastNumber() {
+        for (int things = 0; things < 8; things++) {
+            SeenByOne x = new SeenByOne();
+            for (int n = 0; n < 8; n++) {
+                if (n == things) {
+                    Due.is("image()", x.image(), things);
+                }
+                x.thing(n % 7, n, n, 3, 1);
+                x.show(7 - n, n);
+            }
+            Due.is("restore()", x.restore(), things);
+            for (int n = 0; n < 8; n++) {
+                Due.is("holds(" + (7 - n) + ") of " + things, x.holds(7 - n), n < things ? n : -1);
+            }
+        }
+    }
+
     /** The last THING comes back out of THE IMAGE whole, even where nothing was in its stead. */
     static void promise42RestoreOfTheLastThing() {
         SeenByOne x = new SeenByOne();
