@@ -9,7 +9,7 @@ public final class AllTests {
     private static final Class<?>[] CLASSES = {
         ShelfTests.class, GroundTests.class, SightTests.class, ShutterTests.class, ChangeTests.class,
         WhoTests.class, TruthTests.class, ActTests.class, ImageTests.class, GroundTermsTests.class, TextTests.class,
-        SightTermsTests.class, ComesTermsTests.class, TruthTermsTests.class, RefusalTests.class,
+        SightTermsTests.class, ComesTermsTests.class, MadeTests.class, TruthTermsTests.class, RefusalTests.class,
         FaceTests.class, RandomRuns.class, WildRuns.class,
     };
     private static final int PROMISES = 43;

@@ -6,13 +6,14 @@ import java.lang.reflect.Method;
 import java.lang.reflect.Modifier;
 import java.nio.file.Files;
 import java.nio.file.Path;
+import java.util.ArrayList;
 import java.util.Arrays;
 import java.util.List;
 import java.util.TreeSet;
 import java.util.regex.Matcher;
 import java.util.regex.Pattern;
 
-/** The document's face: rule 1 of LANGUAGE.md; and words that its other rules leave out. */
+/** The document's face: rule 1 of LANGUAGE.md; and of its other rules what can be looked at without reading. */
 final class FaceTests {
     private static final List<String> FACE = List.of(
         "int row(int int int)", "int set(int int long)", "int copy(int int int int int)", "long element(int int)",
@@ -66,12 +67,80 @@ final class FaceTests {
         }
     }
 
+    private static String source() throws IOException {
+        return Files.readString(Path.of("src/main/java/SeenByOne.java"));
+    }
+
     /** A look for words alone; it doesn't stand for reading LANGUAGE.md. */
     static void rule06WordsThatMayNotBe() throws IOException {
-        String source = Files.readString(Path.of("src/main/java/SeenByOne.java"));
         Matcher word = Pattern.compile("\\b(throw|throws|try|catch|synchronized|assert|import|package|equals|hashCode|"
-            + "toString|float|double|yield)\\b|->|::|[^\\n -~]").matcher(source);
+            + "toString|float|double|yield)\\b|->|::|[^\\n -~]").matcher(source());
         same("words that may not be", word.find() ? word.group() : "none", "none");
+    }
+
+    private static List<Class<?>> classes() {
+        List<Class<?>> classes = new ArrayList<>(List.of(SeenByOne.class.getDeclaredClasses()));
+        classes.add(SeenByOne.class);
+        return classes;
+    }
+
+    private static boolean isNumbers(Class<?> type) {
+        return type.isPrimitive() || type.isArray() && type.getComponentType().isPrimitive();
+    }
+
+    /** Own classes, arrays of them, numbers and arrays of numbers: the class needs no more. */
+    static void rule03TypesOfFields() {
+        List<Class<?>> own = classes();
+        for (Class<?> of : own) {
+            for (Field field : of.getDeclaredFields()) {
+                Class<?> type = field.getType();
+                Class<?> single = type.isArray() ? type.getComponentType() : type;
+                same(of.getName() + "." + field.getName() + " may be", isNumbers(type) || own.contains(single), true);
+            }
+        }
+    }
+
+    static void rule04TheLibrary() throws IOException {
+        TreeSet<String> used = new TreeSet<>();
+        Matcher call = Pattern.compile("\\b[A-Z]\\w*\\.\\w+(?=\\()|\\bnew [A-Z]\\w*(?=\\()").matcher(source());
+        while (call.find()) {
+            used.add(call.group());
+        }
+        used.removeAll(List.of("Integer.bitCount", "Math.abs", "Math.max", "Math.min", "System.arraycopy"));
+        used.removeIf(name -> classes().stream().anyMatch(own -> name.equals("new " + own.getSimpleName())));
+        same("calls beyond those of LANGUAGE.md that the class needs", used, new TreeSet<String>());
+    }
+
+    static void rule05StaticFieldsAreConstants() {
+        for (Class<?> of : classes()) {
+            for (Field field : of.getDeclaredFields()) {
+                boolean isConstant = Modifier.isFinal(field.getModifiers()) && field.getType().isPrimitive();
+                same(of.getName() + "." + field.getName(), !Modifier.isStatic(field.getModifiers()) || isConstant, true);
+            }
+        }
+    }
+
+    /** "at most seven parameters", "at most some twelve classes", "some twenty fields beside its constants" */
+    static void rule11HowMuch() {
+        same("at most twelve classes", classes().size() <= 12, true);
+        for (Class<?> of : classes()) {
+            long fields = Arrays.stream(of.getDeclaredFields()).filter(f -> !Modifier.isStatic(f.getModifiers())).count();
+            same(of.getName() + " of at most twenty fields", fields <= 20, true);
+            for (Method method : of.getDeclaredMethods()) {
+                same(method.getName() + " of at most seven parameters", method.getParameterCount() <= 7, true);
+            }
+        }
+    }
+
+    /** "Methods stay short (some sixty lines)": from a line that opens one to the brace under its first letter. */
+    static void rule11ShortMethods() throws IOException {
+        Matcher method = Pattern.compile("(?ms)^( {4}| {8})(?:\\w+[\\w\\[\\] ]* )?(\\w+)\\([^\\n]*\\) \\{$.*?^\\1\\}$").matcher(source());
+        int methods = 0;
+        while (method.find()) {
+            methods++;
+            same(method.group(2) + " is short", method.group().lines().count() <= 60, true);
+        }
+        same("methods were found", methods > 100, true);
     }
 
     static void rule01TheRest() throws ReflectiveOperationException {
