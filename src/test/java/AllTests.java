@@ -10,7 +10,7 @@ public final class AllTests {
         ShelfTests.class, GroundTests.class, SightTests.class, ShutterTests.class, ChangeTests.class,
         WhoTests.class, TruthTests.class, ActTests.class, ImageTests.class, GroundTermsTests.class, TextTests.class,
         SightTermsTests.class, ComesTermsTests.class, MadeTests.class, TruthTermsTests.class, RefusalTests.class,
-        FaceTests.class, RandomRuns.class, WildRuns.class,
+        FaceTests.class, ReadmeTests.class, RandomRuns.class, WildRuns.class,
     };
     private static final int PROMISES = 43;
 
